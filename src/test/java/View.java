@@ -1,0 +1,52 @@
+/** All that can be asked of a map, in few enough calls that the map stays within its 512. */
+final class View {
+    private static final int[][] TILES = {
+        {0, 0, 0}, {1, 0, 0}, {1, 1, 1}, {2, 0, 0}, {2, 3, 3}, {3, 0, 0}, {3, 1, 0}, {4, 0, 0}, {4, 3, 2}
+    };
+
+    private View() {
+    }
+
+    /** Asks for the guards last, as that sets them. */
+    static String of(SignTiles map) {
+        StringBuilder view = new StringBuilder();
+        view.append("clock ").append(map.clock()).append(", ways ").append(map.ways());
+        for (int editor = 0; editor < 6; editor++) {
+            view.append(", trust ").append(map.trust(editor));
+        }
+        for (int way = 0; way < map.ways(); way++) {
+            addWay(view, map, way);
+        }
+        for (int car = 0; car < 3; car++) {
+            view.append(", car ").append(map.carAt(car)).append(" to ").append(map.target(car));
+        }
+        for (int zoom = 0; zoom < 5; zoom++) {
+            view.append(", stale ").append(map.staleTiles(zoom));
+        }
+        for (int[] tile : TILES) {
+            addTile(view, map, tile[0], tile[1], tile[2]);
+        }
+        for (int way = 0; way < map.ways(); way++) {
+            view.append(", guard ").append(map.guard(way, 0));
+        }
+        return view.toString();
+    }
+
+    private static void addWay(StringBuilder view, SignTiles map, int way) {
+        view.append(", way ").append(way).append(" waits ").append(map.waiting(way));
+        view.append(" sightings ").append(map.sightings(way)).append(" dear ").append(map.dear(way));
+        int versions = map.versions(way);
+        for (int version = 0; version < versions; version++) {
+            view.append(" version ").append(map.version(way, version)).append(" at ").append(map.stampOf(way, version));
+        }
+    }
+
+    private static void addTile(StringBuilder view, SignTiles map, int zoom, int x, int y) {
+        int stamp = map.tileStamp(zoom, x, y);
+        view.append(", tile ").append(stamp);
+        if (stamp != SignTiles.NONE) {
+            view.append(' ').append(map.picture(zoom, x, y)).append(' ').append(map.pictureAnew(zoom, x, y));
+            view.append(' ').append(map.isStale(zoom, x, y));
+        }
+    }
+}
