@@ -84,6 +84,23 @@ public final class CarTest {
         Check.same("one's own greater doubts, too", map.sightings(0), 1);
         map.see(1, 0, SignTiles.BOTH, 1);
         Check.same("greater doubts of the same direction stay", map.sightings(0), 2);
+        for (int i = 0; i < 81; i++) {
+            takesAway(i / 27, i / 9 % 3, i / 3 % 3, i % 3);
+        }
+    }
+
+    private static void takesAway(int car, int direction, int laterCar, int laterDirection) {
+        boolean isAnother = direction != laterDirection;
+        boolean isEarlier = !isAnother && car == laterCar;
+        String what = "sightings of " + car + ", " + direction + " and " + laterCar + ", " + laterDirection;
+        SignTiles less = signedStreet();
+        less.see(car, 0, direction, 60);
+        less.see(laterCar, 0, laterDirection, 59);
+        Check.same(what + " with less doubt", less.sightings(0), isAnother || isEarlier ? 1 : 2);
+        SignTiles same = signedStreet();
+        same.see(car, 0, direction, 60);
+        same.see(laterCar, 0, laterDirection, 60);
+        Check.same(what + " with the same doubt", same.sightings(0), isEarlier ? 1 : 2);
     }
 
     private static void promise22ReplacesTheSameCars() {
@@ -261,6 +278,16 @@ public final class CarTest {
         rounded.see(1, 1, SignTiles.ALONG, 99);
         // 100 / 31 and 100 / 30 are 3 both, rounded down.
         Check.same("target of two that are as dear when rounded down", rounded.target(0), 0);
+        SignTiles exact = new SignTiles();
+        exact.addWay(0, 2, 14, 1, SignTiles.LANE);
+        exact.addWay(0, 14, 5, 1, SignTiles.LANE);
+        exact.drive(1, 2, 14);
+        exact.see(1, 0, SignTiles.ALONG, 97);
+        exact.drive(1, 14, 5);
+        exact.see(1, 1, SignTiles.ALONG, 96);
+        exact.drive(1, 2, 5);
+        // 300 / 10 and 400 / 13 are 30 both; times 99 or 101 they would not be as dear.
+        Check.same("target of two that are as dear when rounded down from 100 times", exact.target(1), 0);
     }
 
     private static void promise26Sends() {
@@ -275,6 +302,9 @@ public final class CarTest {
         Check.same("send when both are as near", map.send(2), 2);
         Check.same("carAt the begin when both are as near", map.carAt(2), 100);
         Check.same("another car stays", map.carAt(0), 100);
+        map.drive(2, 10, 9);
+        Check.same("send to the highway's begin", map.send(2), 1);
+        Check.same("carAt the highway's begin", map.carAt(2), 1010);
         map.drive(2, 4, 1);
         Check.same("send to the lane's end", map.send(2), 2);
         Check.same("carAt the lane's end", map.carAt(2), 500);

@@ -29,10 +29,17 @@ final class Check {
         try {
             call.accept(map);
         } catch (RuntimeException e) {
-            thrown = e.getClass().getName();
+            thrown = nameOf(e);
         }
         same(what + " throws", thrown, due.getName());
         same(what + " changes nothing", View.of(map), View.of(setUp.get()));
+    }
+
+    /** What a library throws by itself may bear the very name that is due; its trace tells it. */
+    static String nameOf(RuntimeException e) {
+        StackTraceElement[] trace = e.getStackTrace();
+        boolean isThrownByTheMap = trace.length > 0 && trace[0].getClassName().equals("SignTiles");
+        return e.getClass().getName() + (isThrownByTheMap ? "" : " of the machine");
     }
 
     static void noIndex(String what, Supplier<SignTiles> setUp, Consumer<SignTiles> call) {

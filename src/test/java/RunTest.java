@@ -172,15 +172,15 @@ public final class RunTest {
         // A step of two calls might be the last one, and nothing is promised beyond that.
         if (calls < CALLS) {
             calls++;
-            Check.same("run " + run + ", call " + calls + ", " + call, answer(got), answer(due));
+            Check.same("run " + run + ", call " + calls + ", " + call, answer(got, true), answer(due, false));
         }
     }
 
-    private static String answer(Supplier<Object> call) {
+    private static String answer(Supplier<Object> call, boolean isOfTheMap) {
         try {
             return call.get().toString();
         } catch (RuntimeException e) {
-            return e.getClass().getName();
+            return isOfTheMap ? Check.nameOf(e) : e.getClass().getName();
         }
     }
 
