@@ -22,7 +22,7 @@ public final class CarTest {
         promise25PrefersTheLowestWay();
         promise26Sends();
         promise27TellsWhereCarsAre();
-        refusesWhatIsNoCarOrWay();
+        promises21To27RefuseWhatIsNoCarOrWay();
         Check.close("CarTest");
     }
 
@@ -321,7 +321,7 @@ public final class CarTest {
         Check.same("carAt of car 2", map.carAt(2), 0);
     }
 
-    private static void refusesWhatIsNoCarOrWay() {
+    private static void promises21To27RefuseWhatIsNoCarOrWay() {
         Supplier<SignTiles> setUp = CarTest::streetWithSightings;
         for (int wrong : new int[] {-1, 3, LOWEST, HIGHEST}) {
             Check.noIndex("drive of car " + wrong, setUp, x -> x.drive(wrong, 0, 0));

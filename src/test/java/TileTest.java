@@ -23,8 +23,8 @@ public final class TileTest {
         promise18LooksAtNewWays();
         promise19CountsStaleTiles();
         promise20Refreshes();
-        refusesWhatIsNoTile();
-        refusesWhatWasNotDrawn();
+        promises14To18RefuseWhatIsNoTile();
+        promises15And16RefuseWhatWasNotDrawn();
         Check.close("TileTest");
     }
 
@@ -279,7 +279,7 @@ public final class TileTest {
         Check.same("the clock stays", map.clock(), 5);
     }
 
-    private static void refusesWhatIsNoTile() {
+    private static void promises14To18RefuseWhatIsNoTile() {
         for (int wrong : new int[] {-1, 5, LOWEST, HIGHEST}) {
             refusesTile(wrong, 0, 0);
         }
@@ -301,7 +301,7 @@ public final class TileTest {
         Check.noIndex("isStale of " + tile, setUp, map -> map.isStale(zoom, x, y));
     }
 
-    private static void refusesWhatWasNotDrawn() {
+    private static void promises15And16RefuseWhatWasNotDrawn() {
         for (int zoom = 0; zoom < 5; zoom++) {
             int chosen = zoom;
             int last = (1 << zoom) - 1;

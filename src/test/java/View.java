@@ -1,4 +1,9 @@
-/** All that can be asked of a map, in few enough calls that the map stays within its 512. */
+import java.lang.reflect.Array;
+import java.lang.reflect.Field;
+import java.lang.reflect.Modifier;
+import java.util.List;
+
+/** All that a map is: what can be asked of it, in few enough calls that it stays within its 512, and what it holds. */
 final class View {
     private static final int[][] TILES = {
         {0, 0, 0}, {1, 0, 0}, {1, 1, 1}, {2, 0, 0}, {2, 3, 3}, {3, 0, 0}, {3, 1, 0}, {4, 0, 0}, {4, 3, 2}
@@ -7,10 +12,11 @@ final class View {
     private View() {
     }
 
-    /** Asks for the guards last, as that sets them. */
+    /** Asks for the guards last, as that sets them; what the map holds is looked at ahead of all that. */
     static String of(SignTiles map) {
         StringBuilder view = new StringBuilder();
-        view.append("clock ").append(map.clock()).append(", ways ").append(map.ways());
+        addHeld(view, map);
+        view.append(", clock ").append(map.clock()).append(", ways ").append(map.ways());
         for (int editor = 0; editor < 6; editor++) {
             view.append(", trust ").append(map.trust(editor));
         }
@@ -47,6 +53,44 @@ final class View {
         if (stamp != SignTiles.NONE) {
             view.append(' ').append(map.picture(zoom, x, y)).append(' ').append(map.pictureAnew(zoom, x, y));
             view.append(' ').append(map.isStale(zoom, x, y));
+        }
+    }
+
+    /** What no call asks for, such as each doubt, is held in fields all the same; none of them leads back. */
+    private static void addHeld(StringBuilder view, Object held) {
+        if (held == null) {
+            view.append('.');
+        } else if (held instanceof Number || held instanceof Boolean) {
+            view.append(held).append(' ');
+        } else if (held instanceof List<?> list) {
+            for (Object element : list) {
+                addHeld(view, element);
+            }
+        } else if (held.getClass().isArray()) {
+            for (int i = 0; i < Array.getLength(held); i++) {
+                addHeld(view, Array.get(held, i));
+            }
+        } else {
+            addFields(view, held);
+        }
+    }
+
+    private static void addFields(StringBuilder view, Object held) {
+        view.append('{');
+        for (Field field : held.getClass().getDeclaredFields()) {
+            if (!Modifier.isStatic(field.getModifiers())) {
+                field.setAccessible(true);
+                addHeld(view, valueOf(field, held));
+            }
+        }
+        view.append('}');
+    }
+
+    private static Object valueOf(Field field, Object held) {
+        try {
+            return field.get(held);
+        } catch (IllegalAccessException e) {
+            throw new IllegalStateException(e);
         }
     }
 }

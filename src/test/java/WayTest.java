@@ -24,12 +24,12 @@ public final class WayTest {
         promise7KeepsTrustWithinItsRange();
         promises8To13TellOfWays();
         promise12ForgetsWhatWaits();
-        holdsAChangeInEachOfItsCalls();
-        throwsNothingElseInLaterCalls();
+        promise3ChangesInEachOf512Calls();
+        promises2To22ThrowNothingElseInLaterCalls();
         Check.close("WayTest");
     }
 
-    /** Way 0 is a lane that has two versions, way 1 a highway with a guard of 60 and a change of editor 2 that waits. */
+    /** Way 0 is a lane with two versions, way 1 a highway with a guard of 60 and a change of editor 2 that waits. */
     private static SignTiles twoWays() {
         SignTiles map = new SignTiles();
         map.addWay(0, 0, 0, 4, SignTiles.LANE);
@@ -398,7 +398,7 @@ public final class WayTest {
         Check.same("what waits after another way's edit", other.waiting(1), 223);
     }
 
-    private static void holdsAChangeInEachOfItsCalls() {
+    private static void promise3ChangesInEachOf512Calls() {
         SignTiles map = new SignTiles();
         map.addWay(0, 0, 0, 1, SignTiles.LANE);
         for (int call = 2; call <= 512; call++) {
@@ -408,7 +408,7 @@ public final class WayTest {
     }
 
     /** What later calls answer is free; but the machine itself must not throw even then. */
-    private static void throwsNothingElseInLaterCalls() {
+    private static void promises2To22ThrowNothingElseInLaterCalls() {
         SignTiles map = new SignTiles();
         map.addWay(0, 0, 0, 1, SignTiles.LANE);
         map.addWay(0, 0, 0, 1, SignTiles.LANE);
