@@ -402,8 +402,8 @@ public final class WayEdgeTest {
     }
 
     private static void promise5HasRanges() {
-        Check.sentence(5, "0 to 5");
         for (int editor = 0; editor < 6; editor++) {
+            Check.sentence(5, "0 to 5");
             int chosen = editor;
             int maker = editor == 2 ? 3 : 2;
             Supplier<SignTiles> setUp = () -> editedBy(maker, maker == 2 ? 0 : 50, maker == 3 ? 0 : 50);
